@@ -22,77 +22,46 @@ public final class BridgeNight {
     private static final int ROW_MOST = 1;
     private static final int FIRST_DRAW = 2;
 
-    private final int[] tape = new int[TAPE_AT_MOST];
-    private final Reader reader = new Reader();
+    private final Tape tape = new Tape();
     private final Site site = new Site();
     private final Search search = new Search();
-    private final Row[] rows = new Row[FIRST_DRAW + DRAWS_AT_MOST];
-    private final int[] noiseNumbers = new int[NOISE_AT_MOST];
     private final Yard yard = new Yard();
-    private int tapeBytes = 0;
-    private int faultPlace = NONE;
+    private final int[] noiseNumbers = new int[NOISE_AT_MOST];
     private int noiseCount = 0;
-    private int drawCount = 0;
     private int limit = 100;
 
     public BridgeNight() {
-        for (int r = 0; r < rows.length; r++) {
-            rows[r] = new Row();
-        }
     }
 
     public int feed(int a, int b, int c, int d, int e) {
-        if (tapeBytes + BYTES_OF_FEED > TAPE_AT_MOST) {
+        if (tape.filled + BYTES_OF_FEED > TAPE_AT_MOST) {
             return NONE;
         }
-        putOnTape(a);
-        putOnTape(b);
-        putOnTape(c);
-        putOnTape(d);
-        putOnTape(e);
-        return tapeBytes;
-    }
-
-    private void putOnTape(int number) {
-        for (int shift = 24; shift >= 0; shift -= 8) {
-            tape[tapeBytes] = (number >>> shift) & 255;
-            tapeBytes++;
-        }
+        tape.put(a);
+        tape.put(b);
+        tape.put(c);
+        tape.put(d);
+        tape.put(e);
+        return tape.filled;
     }
 
     public int work(int n) throws IllegalArgumentException, IllegalStateException {
-        if (n < 0 || n > tapeBytes) {
+        if (n < 0 || n > tape.filled) {
             throw new IllegalArgumentException("not so many bytes on the tape");
         }
         if (site.size >= WORKS_AT_MOST) {
             throw new IllegalStateException("there are 16 works");
         }
-        tapeBytes = 0;
-        int kind = reader.read(tape, n, site.works[site.size], site.size);
-        faultPlace = reader.place;
-        if (kind != Reader.NO_FAULT) {
-            return kind - 10;
-        }
-        return addWork();
-    }
-
-    /** The work stands in its slot already: the reader filled it. */
-    private int addWork() {
-        int number = site.size;
-        rows[ROW_LEAST].hours[number] = site.works[number].least;
-        rows[ROW_MOST].hours[number] = site.works[number].most;
-        site.sequence[number] = number;
-        site.size++;
-        drawCount = 0;
-        return number;
+        int kind = tape.read(n, site.size);
+        return kind == Tape.NO_FAULT ? site.add(tape.draft) : kind - 10;
     }
 
     public int fault() {
-        return faultPlace;
+        return tape.place;
     }
 
     public int told(int work, int what) throws IndexOutOfBoundsException, IllegalArgumentException {
-        if (!isWork(work)) {
+        if (!site.hasWork(work)) {
             throw new IndexOutOfBoundsException("no such work");
         }
         Work asked = site.works[work];
@@ -138,54 +107,49 @@ public final class BridgeNight {
     }
 
     public int draw() {
-        if (drawCount >= DRAWS_AT_MOST) {
+        if (site.draws >= DRAWS_AT_MOST) {
             return -1;
         }
         if (noiseCount < site.size) {
             return -2;
         }
-        int row = FIRST_DRAW + drawCount;
-        for (int w = 0; w < site.size; w++) {
-            rows[row].hours[w] = site.works[w].drawnHours(noiseNumbers[w]);
-        }
         noiseCount = 0;
-        drawCount++;
-        return row;
+        return site.addDraw(noiseNumbers);
     }
 
     public int hours(int row, int work) throws IndexOutOfBoundsException, IllegalArgumentException {
-        if (!isWork(work)) {
+        if (!site.hasWork(work)) {
             throw new IndexOutOfBoundsException("no such work");
         }
-        if (!isRow(row)) {
+        if (!site.hasRow(row)) {
             throw new IllegalArgumentException("no such row");
         }
-        return rows[row].hours[work];
+        return site.rows[row].hours[work];
     }
 
     public int end(int row) throws IllegalArgumentException {
-        if (!isRow(row)) {
+        if (!site.hasRow(row)) {
             throw new IllegalArgumentException("no such row");
         }
-        return site.walk(rows[row], site.sequence);
+        return site.walk(row, site.sequence);
     }
 
     public int begins(int row, int work) throws IndexOutOfBoundsException, IllegalArgumentException {
-        if (!isWork(work)) {
+        if (!site.hasWork(work)) {
             throw new IndexOutOfBoundsException("no such work");
         }
-        if (!isRow(row)) {
+        if (!site.hasRow(row)) {
             throw new IllegalArgumentException("no such row");
         }
-        site.walk(rows[row], site.sequence);
-        return rows[row].starts[work];
+        site.walk(row, site.sequence);
+        return site.rows[row].starts[work];
     }
 
     public int best() {
-        if (site.size > WORKS_OF_BEST || site.walk(rows[ROW_MOST], site.sequence) == NONE) {
+        if (site.size > WORKS_OF_BEST || site.walk(ROW_MOST, site.sequence) == NONE) {
             return NONE;
         }
-        search.find(site, rows[ROW_LEAST], rows[ROW_MOST]);
+        search.find(site);
         System.arraycopy(search.found, 0, site.sequence, 0, site.size);
         return search.endByMost;
     }
@@ -195,7 +159,7 @@ public final class BridgeNight {
     }
 
     public int move(int work, int k) throws IndexOutOfBoundsException, IllegalArgumentException {
-        if (!isWork(work)) {
+        if (!site.hasWork(work)) {
             throw new IndexOutOfBoundsException("no such work");
         }
         if (k < 0 || k >= site.size) {
@@ -205,88 +169,46 @@ public final class BridgeNight {
     }
 
     public int part() {
-        walkDraws();
-        int within = 0;
-        for (int d = 0; d < drawCount; d++) {
-            int finish = rows[FIRST_DRAW + d].finish;
-            if (finish != NONE && finish <= limit) {
-                within++;
-            }
-        }
-        return within;
+        site.walkDraws();
+        return site.drawsWithin(limit);
     }
 
     public int on() {
-        walkDraws();
-        return lateEnds();
+        site.walkDraws();
+        return site.lateEnds(limit);
     }
 
     public int off(int hour) throws IllegalArgumentException {
         if (hour < 0 || hour > HOUR_AT_MOST) {
             throw new IllegalArgumentException("no such hour");
         }
-        walkDraws();
-        return lateBacks(hour);
+        site.walkDraws();
+        return site.lateBacks(hour, limit);
     }
 
     /**
-     * BACK never falls from an hour to the next, and once it is missing it stays so; at hour 0
-     * nothing is begun. So the good hours are the first ones, and halving steps find the last.
+     * BACK never falls from an hour to the next, and where it is missing it is so at all later
+     * hours; at hour 0 nothing is begun, and OFF is 0. So the hours that hold are the first ones,
+     * and steps that halve find the last of them.
      */
     public int last() {
-        if (drawCount == 0) {
+        if (site.draws == 0) {
             return NONE;
         }
-        walkDraws();
-        int allowed = lateEnds();
-        int good = 0;
+        site.walkDraws();
+        int late = site.lateEnds(limit);
+        int hour = 0;
         for (int step = 512; step > 0; step >>= 1) {
-            if (good + step <= HOUR_AT_MOST && isBackBetter(good + step, allowed)) {
-                good += step;
+            if (hour + step <= HOUR_AT_MOST && isOffHeld(hour + step, late)) {
+                hour += step;
             }
         }
-        return good;
+        return hour;
     }
 
-    private boolean isBackBetter(int hour, int allowed) {
-        int late = lateBacks(hour);
-        return late != NONE && (allowed == NONE || late <= allowed);
-    }
-
-    private void walkDraws() {
-        for (int d = 0; d < drawCount; d++) {
-            site.walk(rows[FIRST_DRAW + d], site.sequence);
-        }
-    }
-
-    /** ON, behind walkDraws(). */
-    private int lateEnds() {
-        int sum = 0;
-        for (int d = 0; d < drawCount; d++) {
-            int finish = rows[FIRST_DRAW + d].finish;
-            if (finish == NONE) {
-                return NONE;
-            }
-            sum += aboveLimit(finish);
-        }
-        return drawCount == 0 ? NONE : sum;
-    }
-
-    /** OFF at an hour, behind walkDraws(). */
-    private int lateBacks(int hour) {
-        int sum = 0;
-        for (int d = 0; d < drawCount; d++) {
-            int back = site.backFrom(hour, rows[FIRST_DRAW + d]);
-            if (back == NONE) {
-                return NONE;
-            }
-            sum += aboveLimit(back);
-        }
-        return drawCount == 0 ? NONE : sum;
-    }
-
-    private int aboveLimit(int hour) {
-        return Math.max(0, hour - limit);
+    private boolean isOffHeld(int hour, int lateOn) {
+        int lateOff = site.lateBacks(hour, limit);
+        return lateOff != NONE && (lateOn == NONE || lateOff <= lateOn);
     }
 
     public int train(int number) throws IllegalArgumentException {
@@ -296,10 +218,7 @@ public final class BridgeNight {
         if (yard.trains >= TRAINS_AT_MOST) {
             return -1;
         }
-        if (yard.has(number)) {
-            return -2;
-        }
-        return yard.take(number);
+        return yard.has(number) ? -2 : yard.take(number);
     }
 
     public int ends() {
@@ -321,24 +240,16 @@ public final class BridgeNight {
             case 0:
                 return site.size;
             case 1:
-                return drawCount;
+                return site.draws;
             case 2:
                 return noiseCount;
             case 3:
                 return yard.trains;
             case 4:
-                return tapeBytes;
+                return tape.filled;
             default:
                 return NONE;
         }
-    }
-
-    private boolean isWork(int work) {
-        return work >= 0 && work < site.size;
-    }
-
-    private boolean isRow(int row) {
-        return row >= 0 && row < FIRST_DRAW + drawCount;
     }
 
     /** What a text tells of a WORK. */
@@ -347,8 +258,10 @@ public final class BridgeNight {
         int most;
         int thing;
         int hands;
-        int back;
+        int back = NONE;
         int after;
+        /** The THING as a bit, 0 without: so one look tells whether a THING is in use. */
+        int thingBit;
 
         void clear() {
             least = 0;
@@ -357,25 +270,41 @@ public final class BridgeNight {
             hands = 0;
             back = NONE;
             after = 0;
+            thingBit = 0;
         }
 
-        /** A WORK without a THING uses none: its bit is 0. */
-        int thingBit() {
-            return thing == 0 ? 0 : 1 << thing;
+        void copyFrom(Work other) {
+            least = other.least;
+            most = other.most;
+            thing = other.thing;
+            hands = other.hands;
+            back = other.back;
+            after = other.after;
+            thingBit = other.thingBit;
         }
 
         int drawnHours(int number) {
             int width = most - least + 1;
             return width <= 0 ? least : least + (int) ((number & 0xFFFFFFFFL) % width);
         }
+
+        boolean isAfter(int number) {
+            return (after & 1 << number) != 0;
+        }
+
+        /** Whether one that begins can keep the other from it. */
+        boolean competesWith(Work other) {
+            return (thingBit & other.thingBit) != 0 || hands > 0 && other.hands > 0;
+        }
     }
 
-    /** Reads a text from left to right, up to its first FAULT. */
-    private static final class Reader {
+    /** The TAPE, and the reading of a text on it from left to right, up to its first FAULT. */
+    private static final class Tape {
         static final int NO_FAULT = 0;
-        static final int CANNOT_STAND = 1;
-        static final int NO_SUCH_NUMBER = 2;
-        static final int NO_HOURS = 3;
+
+        private static final int CANNOT_STAND = 1;
+        private static final int NO_SUCH_NUMBER = 2;
+        private static final int NO_HOURS = 3;
 
         private static final int HOURS = 0;
         private static final int NEEDS = 1;
@@ -383,59 +312,75 @@ public final class BridgeNight {
         private static final int BACK = 3;
         private static final int AFTER = 4;
 
-        /** Greater than every bound of a number: longer ones are kept here, so that none overflows. */
+        /** Above every bound of a number: greater ones are kept at it, so that none overflows. */
         private static final int TOO_GREAT = 1000;
 
-        private int[] bytes;
+        final Work draft = new Work();
+        int filled = 0;
+        int place = NONE;
+
+        private final int[] bytes = new int[TAPE_AT_MOST];
         private int length;
         private int at;
         private int value;
         private int clausesRead;
-        private Work target;
         private int earlier;
         private int kind;
-        int place;
 
-        /** The kind of the FAULT in the first n bytes, or NO_FAULT; the place of it is in 'place'. */
-        int read(int[] tape, int n, Work slot, int worksBefore) {
-            bytes = tape;
-            length = n;
-            at = 0;
-            clausesRead = 0;
-            target = slot;
-            target.clear();
-            earlier = worksBefore;
-            kind = NO_FAULT;
-            place = NONE;
-            if (readClauses() && (clausesRead & 1 << HOURS) == 0) {
+        /** There is room for four bytes. */
+        void put(int number) {
+            for (int shift = 24; shift >= 0; shift -= 8) {
+                bytes[filled] = (number >>> shift) & 255;
+                filled++;
+            }
+        }
+
+        /**
+         * Reads the first n bytes into the draft and empties the tape: the kind of the FAULT, or
+         * NO_FAULT. The tape has n bytes, and there are so many earlier WORKS. A clause takes a
+         * byte at least, so there are no more of them than bytes.
+         */
+        int read(int n, int earlierWorks) {
+            startReading(n, earlierWorks);
+            skipBlanks();
+            for (int c = 0; c < length && at < length && kind == NO_FAULT; c++) {
+                readClause();
+                skipBlanks();
+            }
+            if (kind == NO_FAULT && !isRead(HOURS)) {
                 refuse(NO_HOURS, length);
             }
             return kind;
         }
 
-        private boolean readClauses() {
-            skipBlanks();
-            while (at < length) {
-                if (!readClause()) {
-                    return false;
-                }
-                skipBlanks();
-            }
-            return true;
+        private void startReading(int n, int earlierWorks) {
+            filled = 0;
+            length = n;
+            at = 0;
+            clausesRead = 0;
+            earlier = earlierWorks;
+            kind = NO_FAULT;
+            place = NONE;
+            draft.clear();
         }
 
         private boolean readClause() {
             int from = at;
-            skipWord();
-            int clause = clauseOf(from);
-            if (clause == NONE || (clausesRead & 1 << clause) != 0) {
+            int clause = readClauseWord();
+            if (clause == NONE || isRead(clause)) {
                 return refuse(CANNOT_STAND, from);
             }
             clausesRead |= 1 << clause;
             return readRest(clause) && readSign(';');
         }
 
-        private int clauseOf(int from) {
+        private boolean isRead(int clause) {
+            return (clausesRead & 1 << clause) != 0;
+        }
+
+        private int readClauseWord() {
+            int from = at;
+            skipWord();
             if (spells(from, "hours")) {
                 return HOURS;
             }
@@ -470,11 +415,11 @@ public final class BridgeNight {
             if (!readNumber(1, 40)) {
                 return false;
             }
-            target.least = value;
-            if (!readSign('-') || !readNumber(target.least, 40)) {
+            draft.least = value;
+            if (!readSign('-') || !readNumber(draft.least, 40)) {
                 return false;
             }
-            target.most = value;
+            draft.most = value;
             return true;
         }
 
@@ -483,14 +428,15 @@ public final class BridgeNight {
             int from = at;
             skipWord();
             if (spells(from, "track")) {
-                target.thing = 1;
+                draft.thing = 1;
             } else if (spells(from, "crane")) {
-                target.thing = 2;
+                draft.thing = 2;
             } else if (spells(from, "hole")) {
-                target.thing = 3;
+                draft.thing = 3;
             } else {
                 return refuse(CANNOT_STAND, from);
             }
+            draft.thingBit = 1 << draft.thing;
             return true;
         }
 
@@ -498,7 +444,7 @@ public final class BridgeNight {
             if (!readNumber(0, 30)) {
                 return false;
             }
-            target.hands = value;
+            draft.hands = value;
             return true;
         }
 
@@ -506,26 +452,31 @@ public final class BridgeNight {
             if (!readNumber(0, 40)) {
                 return false;
             }
-            target.back = value;
+            draft.back = value;
             return true;
         }
 
+        /** A number takes a byte at least, so there are no more than bytes. */
         private boolean readAfter() {
-            do {
+            for (int n = 0; n < length && (n == 0 || isNumberNext()); n++) {
                 if (!readNumber(0, earlier - 1)) {
                     return false;
                 }
-                target.after |= 1 << value;
-                skipBlanks();
-            } while (at < length && isDigit(bytes[at]));
+                draft.after |= 1 << value;
+            }
             return true;
+        }
+
+        private boolean isNumberNext() {
+            skipBlanks();
+            return isDigitHere();
         }
 
         private boolean readNumber(int from, int to) {
             skipBlanks();
             int start = at;
             value = 0;
-            while (at < length && isDigit(bytes[at])) {
+            while (at < length && isDigitHere()) {
                 value = Math.min(TOO_GREAT, value * 10 + bytes[at] - '0');
                 at++;
             }
@@ -533,6 +484,10 @@ public final class BridgeNight {
                 return refuse(CANNOT_STAND, start);
             }
             return value >= from && value <= to || refuse(NO_SUCH_NUMBER, start);
+        }
+
+        private boolean isDigitHere() {
+            return at < length && bytes[at] >= '0' && bytes[at] <= '9';
         }
 
         private boolean readSign(char sign) {
@@ -569,10 +524,7 @@ public final class BridgeNight {
             return true;
         }
 
-        private boolean isDigit(int sign) {
-            return sign >= '0' && sign <= '9';
-        }
-
+        /** Answers false, so that a reading can end with it. */
         private boolean refuse(int faultKind, int where) {
             kind = faultKind;
             place = where;
@@ -580,18 +532,20 @@ public final class BridgeNight {
         }
     }
 
-    /** The hours of all WORKS, and what came of it when the row was gone through the latest time. */
+    /** The hours of all WORKS, and what came of them when the row was gone through the last time. */
     private static final class Row {
         final int[] hours = new int[WORKS_AT_MOST];
         final int[] starts = new int[WORKS_AT_MOST];
         int finish = NONE;
     }
 
-    /** The WORKS, their ORDER and the CREW. */
+    /** The WORKS, their ORDER, the CREW and the ROWS. */
     private static final class Site {
         final Work[] works = new Work[WORKS_AT_MOST];
         final int[] sequence = new int[WORKS_AT_MOST];
+        final Row[] rows = new Row[FIRST_DRAW + DRAWS_AT_MOST];
         int size = 0;
+        int draws = 0;
         int crew = 30;
 
         private final int[] stops = new int[WORKS_AT_MOST];
@@ -604,83 +558,39 @@ public final class BridgeNight {
             for (int w = 0; w < works.length; w++) {
                 works[w] = new Work();
             }
-        }
-
-        /** Goes through a row in an order: END, or NONE; a WORK that never begins starts at NONE. */
-        int walk(Row row, int[] inOrder) {
-            begun = 0;
-            ended = 0;
-            thingsInUse = 0;
-            handsFree = crew;
-            Arrays.fill(row.starts, NONE);
-            int hour = 0;
-            for (int turn = 0; turn <= size; turn++) {
-                beginAt(hour, row, inOrder);
-                if (begun == ended) {
-                    break;
-                }
-                hour = nextStop();
-                endAt(hour);
-            }
-            row.finish = ended == (1 << size) - 1 ? hour : NONE;
-            return row.finish;
-        }
-
-        private void beginAt(int hour, Row row, int[] inOrder) {
-            for (int k = 0; k < size; k++) {
-                int number = inOrder[k];
-                if ((begun & 1 << number) == 0 && canBegin(works[number])) {
-                    begun |= 1 << number;
-                    thingsInUse |= works[number].thingBit();
-                    handsFree -= works[number].hands;
-                    row.starts[number] = hour;
-                    stops[number] = hour + row.hours[number];
-                }
+            for (int r = 0; r < rows.length; r++) {
+                rows[r] = new Row();
             }
         }
 
-        private boolean canBegin(Work next) {
-            return (next.after & ~ended) == 0
-                && (next.thingBit() & thingsInUse) == 0
-                && next.hands <= handsFree;
+        boolean hasWork(int number) {
+            return number >= 0 && number < size;
         }
 
-        private int nextStop() {
-            int next = Integer.MAX_VALUE;
+        boolean hasRow(int row) {
+            return row >= 0 && row < FIRST_DRAW + draws;
+        }
+
+        /** There are fewer than 16 WORKS: the number of the new one. */
+        int add(Work told) {
+            int number = size;
+            works[number].copyFrom(told);
+            rows[ROW_LEAST].hours[number] = told.least;
+            rows[ROW_MOST].hours[number] = told.most;
+            sequence[number] = number;
+            size++;
+            draws = 0;
+            return number;
+        }
+
+        /** There are fewer than 20 DRAWS, and a number for each WORK: the row of the new one. */
+        int addDraw(int[] numbers) {
+            int row = FIRST_DRAW + draws;
             for (int w = 0; w < size; w++) {
-                if (isRunning(w)) {
-                    next = Math.min(next, stops[w]);
-                }
+                rows[row].hours[w] = works[w].drawnHours(numbers[w]);
             }
-            return next;
-        }
-
-        private void endAt(int hour) {
-            for (int w = 0; w < size; w++) {
-                if (isRunning(w) && stops[w] == hour) {
-                    ended |= 1 << w;
-                    thingsInUse &= ~works[w].thingBit();
-                    handsFree += works[w].hands;
-                }
-            }
-        }
-
-        private boolean isRunning(int number) {
-            return ((begun & ~ended) & 1 << number) != 0;
-        }
-
-        /** BACK at an hour by a row that has been gone through; NONE: there is no way back. */
-        int backFrom(int hour, Row row) {
-            int sum = hour;
-            for (int w = 0; w < size; w++) {
-                if (row.starts[w] != NONE && row.starts[w] < hour) {
-                    if (works[w].back == NONE) {
-                        return NONE;
-                    }
-                    sum += works[w].back;
-                }
-            }
-            return sum;
+            draws++;
+            return row;
         }
 
         /** Puts a WORK at a place of the ORDER: the place at which it was. */
@@ -698,49 +608,189 @@ public final class BridgeNight {
             sequence[to] = number;
             return from;
         }
+
+        /**
+         * Goes through a row in an order of all WORKS: END, or NONE. A WORK that never begins
+         * starts at NONE. Each turn but the last ends a WORK, so there are no more turns than that.
+         */
+        int walk(int row, int[] inOrder) {
+            Row walked = rows[row];
+            Arrays.fill(walked.starts, NONE);
+            begun = 0;
+            ended = 0;
+            thingsInUse = 0;
+            handsFree = crew;
+            int hour = 0;
+            for (int turn = 0; turn <= size; turn++) {
+                beginAt(hour, walked, inOrder);
+                if (begun == ended) {
+                    break;
+                }
+                hour = nextStop();
+                endAt(hour);
+            }
+            walked.finish = ended == (1 << size) - 1 ? hour : NONE;
+            return walked.finish;
+        }
+
+        private void beginAt(int hour, Row walked, int[] inOrder) {
+            for (int k = 0; k < size; k++) {
+                int number = inOrder[k];
+                if ((begun & 1 << number) == 0 && canBegin(works[number])) {
+                    begun |= 1 << number;
+                    thingsInUse |= works[number].thingBit;
+                    handsFree -= works[number].hands;
+                    walked.starts[number] = hour;
+                    stops[number] = hour + walked.hours[number];
+                }
+            }
+        }
+
+        private boolean canBegin(Work next) {
+            return (next.after & ~ended) == 0
+                && (next.thingBit & thingsInUse) == 0
+                && next.hands <= handsFree;
+        }
+
+        private int nextStop() {
+            int next = Integer.MAX_VALUE;
+            for (int w = 0; w < size; w++) {
+                if (isRunning(w)) {
+                    next = Math.min(next, stops[w]);
+                }
+            }
+            return next;
+        }
+
+        private void endAt(int hour) {
+            for (int w = 0; w < size; w++) {
+                if (isRunning(w) && stops[w] == hour) {
+                    ended |= 1 << w;
+                    thingsInUse &= ~works[w].thingBit;
+                    handsFree += works[w].hands;
+                }
+            }
+        }
+
+        private boolean isRunning(int number) {
+            return (begun & ~ended & 1 << number) != 0;
+        }
+
+        void walkDraws() {
+            for (int d = 0; d < draws; d++) {
+                walk(FIRST_DRAW + d, sequence);
+            }
+        }
+
+        /** PART, behind walkDraws(). */
+        int drawsWithin(int limit) {
+            int within = 0;
+            for (int d = 0; d < draws; d++) {
+                int finish = rows[FIRST_DRAW + d].finish;
+                if (finish != NONE && finish <= limit) {
+                    within++;
+                }
+            }
+            return within;
+        }
+
+        /** ON, behind walkDraws(). */
+        int lateEnds(int limit) {
+            int sum = 0;
+            for (int d = 0; d < draws; d++) {
+                int finish = rows[FIRST_DRAW + d].finish;
+                if (finish == NONE) {
+                    return NONE;
+                }
+                sum += Math.max(0, finish - limit);
+            }
+            return draws == 0 ? NONE : sum;
+        }
+
+        /** OFF at an hour, behind walkDraws(). */
+        int lateBacks(int hour, int limit) {
+            int sum = 0;
+            for (int d = 0; d < draws; d++) {
+                int back = backFrom(hour, rows[FIRST_DRAW + d]);
+                if (back == NONE) {
+                    return NONE;
+                }
+                sum += Math.max(0, back - limit);
+            }
+            return draws == 0 ? NONE : sum;
+        }
+
+        private int backFrom(int hour, Row walked) {
+            int sum = hour;
+            for (int w = 0; w < size; w++) {
+                if (walked.starts[w] != NONE && walked.starts[w] < hour) {
+                    if (works[w].back == NONE) {
+                        return NONE;
+                    }
+                    sum += works[w].back;
+                }
+            }
+            return sum;
+        }
     }
 
-    /** Goes through all ORDERS of few WORKS, the first by numbers first, for the BEST one. */
+    /** Goes through the ORDERS of few WORKS, the first by numbers first, for the BEST one. */
     private static final class Search {
         final int[] found = new int[WORKS_OF_BEST];
         int endByMost;
 
         private final int[] trial = new int[WORKS_OF_BEST];
         private int endByLeast;
-        private Site site;
-        private Row least;
-        private Row most;
+        private int knownSize = NONE;
+        private int knownCrew = NONE;
 
-        /** There are 7 WORKS at most, and they have an END. */
-        void find(Site at, Row byLeast, Row byMost) {
-            site = at;
-            least = byLeast;
-            most = byMost;
+        /**
+         * There are 7 WORKS at most, and they have an END. No WORK ever changes: as long as there
+         * is no new one, and no other CREW, what was found stands.
+         */
+        void find(Site site) {
+            if (knownSize == site.size && knownCrew == site.crew) {
+                return;
+            }
+            knownSize = site.size;
+            knownCrew = site.crew;
             endByMost = Integer.MAX_VALUE;
             endByLeast = Integer.MAX_VALUE;
-            tryFrom(0, 0);
+            tryFrom(site, 0, 0);
         }
 
-        /** All orders whose first works, as many as 'placed', stand in the trial. */
-        private void tryFrom(int placed, int used) {
+        /** Tries the orders whose first works stand in the trial: how many, and which, as bits. */
+        private void tryFrom(Site site, int placed, int used) {
             if (placed >= site.size || placed >= WORKS_OF_BEST) {
-                judge();
+                judge(site);
                 return;
             }
             for (int w = 0; w < site.size; w++) {
-                if ((used & 1 << w) == 0) {
+                if ((used & 1 << w) == 0 && !isNeedless(site, placed, w)) {
                     trial[placed] = w;
-                    tryFrom(placed + 1, used | 1 << w);
+                    tryFrom(site, placed + 1, used | 1 << w);
                 }
             }
         }
 
-        private void judge() {
-            int byMost = site.walk(most, trial);
+        /**
+         * Two neighbours that can never keep one another from beginning begin at the same hours
+         * the other way round: that order is the one ahead by numbers, so this one is never best.
+         */
+        private boolean isNeedless(Site site, int placed, int next) {
+            if (placed == 0 || trial[placed - 1] < next) {
+                return false;
+            }
+            Work before = site.works[trial[placed - 1]];
+            return before.isAfter(next) || !before.competesWith(site.works[next]);
+        }
+
+        private void judge(Site site) {
+            int byMost = site.walk(ROW_MOST, trial);
             if (byMost > endByMost) {
                 return;
             }
-            int byLeast = site.walk(least, trial);
+            int byLeast = site.walk(ROW_LEAST, trial);
             if (byMost < endByMost || byLeast < endByLeast) {
                 endByMost = byMost;
                 endByLeast = byLeast;
@@ -751,11 +801,12 @@ public final class BridgeNight {
 
     /** TRAINS in dead ends. */
     private static final class Yard {
+        int trains = 0;
+        int deadEnds = 0;
+
         private final int[] numbers = new int[TRAINS_AT_MOST];
         private final int[] places = new int[TRAINS_AT_MOST];
         private final int[] foremost = new int[TRAINS_AT_MOST];
-        int trains = 0;
-        int deadEnds = 0;
 
         void clear() {
             trains = 0;
@@ -771,7 +822,7 @@ public final class BridgeNight {
             return false;
         }
 
-        /** There are fewer than 30: its dead end. */
+        /** There are fewer than 30 trains: the dead end of the new one. */
         int take(int number) {
             int place = placeFor(number);
             if (place == NONE) {
@@ -795,7 +846,7 @@ public final class BridgeNight {
             return chosen;
         }
 
-        /** The dead end of the train that comes out behind k others. */
+        /** The dead end of the train that comes out behind k others; NONE. */
         int deadEndOf(int k) {
             for (int t = 0; t < trains; t++) {
                 if (trainsAheadOf(numbers[t]) == k) {
