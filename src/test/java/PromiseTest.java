@@ -23,11 +23,13 @@ public final class PromiseTest {
         whatNeverBegins();
         best();
         bestByLeastHours();
+        bestOfFewHands();
         bestIsNotTold();
         orderAndMove();
         partAndOn();
         off();
         last();
+        lastAtEachHour();
         lastWithoutOn();
         drawsWithoutWorks();
         train();
@@ -352,6 +354,24 @@ public final class PromiseTest {
         orderIs("12: the least of these", y, 0, 2, 1);
     }
 
+    private static void bestOfFewHands() {
+        secondGoesFirst("hands 1;", "hands 1;", 1);
+        secondGoesFirst("hands 1;", "hands 2;", 2);
+        secondGoesFirst("hands 2;", "hands 1;", 2);
+        secondGoesFirst("needs hole;", "needs hole;", 30);
+        BridgeNight y = night("hours 3-3;needs hole;", "hours 2-2;needs crane;hands 2;", "hours 9-9;after 1;");
+        Check.due("12: none in another's way", y::best, 11);
+        orderIs("12: none in another's way", y, 0, 1, 2);
+    }
+
+    /** Two works of which one alone can go at a time, and a long third one behind the second. */
+    private static void secondGoesFirst(String first, String second, int crew) {
+        BridgeNight x = night("hours 3-3;" + first, "hours 2-2;" + second, "hours 9-9;after 1;");
+        x.set(0, crew);
+        Check.due("12: " + first + second, x::best, 11);
+        orderIs("12: " + first + second, x, 1, 0, 2);
+    }
+
     private static void bestIsNotTold() {
         String[] texts = new String[8];
         for (int w = 0; w < 8; w++) {
@@ -454,6 +474,16 @@ public final class PromiseTest {
         drawWith(z, 0);
         z.set(1, 1000);
         Check.due("18: all hours", z::last, 1000);
+    }
+
+    /** Without works BACK is the hour itself, and END is 0: so the LIMIT is the last hour. */
+    private static void lastAtEachHour() {
+        for (int hour = 0; hour <= 1000; hour++) {
+            BridgeNight x = new BridgeNight();
+            x.draw();
+            x.set(1, hour);
+            Check.due("18: the limit is the last hour", x::last, hour);
+        }
     }
 
     private static void lastWithoutOn() {

@@ -55,6 +55,9 @@ public final class TextTest {
         wrong("needs boat;", 1, 6);
         wrong("needs   tracks;", 1, 8);
         wrong("needs trac;", 1, 6);
+        wrong("needs trackz;", 1, 6);
+        wrong("needs atrack;", 1, 6);
+        wrong("hoursz 1-2;", 1, 0);
         wrong("needstrack;", 1, 0);
         wrong("needs hours;", 1, 6);
         wrong("needs 1;", 1, 6);
