@@ -39,30 +39,6 @@ public final class PromiseTest {
         Check.finish();
     }
 
-    private static BridgeNight night(String... texts) {
-        BridgeNight x = new BridgeNight();
-        for (int w = 0; w < texts.length; w++) {
-            int number = w;
-            Check.due("work " + texts[w], () -> Check.tell(x, texts[number]), w);
-        }
-        return x;
-    }
-
-    private static void drawWith(BridgeNight x, int... numbers) {
-        for (int v : numbers) {
-            x.noise(v);
-        }
-        int row = 2 + x.count(1);
-        Check.due("draw()", x::draw, row);
-    }
-
-    private static void orderIs(String what, BridgeNight x, int... due) {
-        for (int k = 0; k < due.length; k++) {
-            int place = k;
-            Check.due(what + ": order(" + k + ")", () -> x.order(place), due[k]);
-        }
-    }
-
     private static void newObject() {
         BridgeNight x = new BridgeNight();
         for (int what = 0; what < 5; what++) {
@@ -152,7 +128,7 @@ public final class PromiseTest {
     }
 
     private static void told() {
-        BridgeNight x = night("hours 3-5;", "needs hole;hands 30;back 40;after 0;hours 7-40;");
+        BridgeNight x = Nights.with("hours 3-5;", "needs hole;hands 30;back 40;after 0;hours 7-40;");
         int[] first = {3, 5, 0, 0, -1, 0};
         int[] second = {7, 40, 3, 30, 40, 1};
         for (int what = 0; what < 6; what++) {
@@ -199,7 +175,7 @@ public final class PromiseTest {
     }
 
     private static void draw() {
-        BridgeNight x = night("hours 3-5;", "hours 1-40;");
+        BridgeNight x = Nights.with("hours 3-5;", "hours 1-40;");
         Check.due("8: no noise", x::draw, -2);
         x.noise(7);
         Check.due("8: too little noise", x::draw, -2);
@@ -210,14 +186,14 @@ public final class PromiseTest {
         Check.due("8: the noise is gone", () -> x.count(2), 0);
         Check.due("8: 7 leaves 1 by 3", () -> x.hours(2, 0), 4);
         Check.due("8: 39 leaves 39 by 40", () -> x.hours(2, 1), 40);
-        drawWith(x, -1, -1);
+        Nights.draw(x, -1, -1);
         Check.due("8: 4,294,967,295 leaves 0 by 3", () -> x.hours(3, 0), 3);
         Check.due("8: 4,294,967,295 leaves 15 by 40", () -> x.hours(3, 1), 16);
-        drawWith(x, LEAST_INT, LEAST_INT);
+        Nights.draw(x, LEAST_INT, LEAST_INT);
         Check.due("8: 2,147,483,648 leaves 2 by 3", () -> x.hours(4, 0), 5);
         Check.due("8: 2,147,483,648 leaves 8 by 40", () -> x.hours(4, 1), 9);
         for (int row = 5; row < 22; row++) {
-            drawWith(x, row, row);
+            Nights.draw(x, row, row);
         }
         Check.due("8: a 21st without noise", x::draw, -1);
         x.noise(0);
@@ -230,8 +206,8 @@ public final class PromiseTest {
     }
 
     private static void drawsAreGone() {
-        BridgeNight x = night("hours 3-5;");
-        drawWith(x, 1);
+        BridgeNight x = Nights.with("hours 3-5;");
+        Nights.draw(x, 1);
         x.noise(2);
         Check.due("2: a fault", () -> Check.tell(x, "hours"), -9);
         Check.due("2: the draw stands behind a fault", () -> x.end(2), 4);
@@ -241,13 +217,13 @@ public final class PromiseTest {
         Check.due("2: draws are gone", () -> x.count(1), 0);
         Check.due("2: noise is not", () -> x.count(2), 1);
         Check.isThrown("2: no such row", () -> x.end(2), IAE);
-        drawWith(x, 3);
+        Nights.draw(x, 3);
         Check.due("2: drawn anew", () -> x.hours(2, 0), 5);
     }
 
     private static void hours() {
-        BridgeNight x = night("hours 3-5;", "hours 1-9;");
-        drawWith(x, 1, 10);
+        BridgeNight x = Nights.with("hours 3-5;", "hours 1-9;");
+        Nights.draw(x, 1, 10);
         int[][] due = {{3, 1}, {5, 9}, {4, 2}};
         for (int row = 0; row < 3; row++) {
             int r = row;
@@ -267,91 +243,84 @@ public final class PromiseTest {
         }
     }
 
-    private static void startsAre(String what, BridgeNight x, int row, int... due) {
-        for (int w = 0; w < due.length; w++) {
-            int work = w;
-            Check.due(what + ": begins(" + row + ", " + w + ")", () -> x.begins(row, work), due[w]);
-        }
-    }
-
     private static void endAndBegins() {
-        BridgeNight x = night("hours 3-5;", "hours 2-2;after 0;", "hours 4-9;needs crane;hands 10;",
+        BridgeNight x = Nights.with("hours 3-5;", "hours 2-2;after 0;", "hours 4-9;needs crane;hands 10;",
             "hands 25;after 1;needs crane;hours 1-1;");
-        startsAre("10, 11", x, 0, 0, 3, 0, 5);
-        startsAre("10, 11", x, 1, 0, 5, 0, 9);
-        drawWith(x, 2, 0, 0, 0);
-        startsAre("10, 11", x, 2, 0, 5, 0, 7);
+        Nights.startsAre("10, 11", x, 0, 0, 3, 0, 5);
+        Nights.startsAre("10, 11", x, 1, 0, 5, 0, 9);
+        Nights.draw(x, 2, 0, 0, 0);
+        Nights.startsAre("10, 11", x, 2, 0, 5, 0, 7);
         Check.due("10: by the least", () -> x.end(0), 6);
         Check.due("10: by the most", () -> x.end(1), 10);
         Check.due("10: by a draw", () -> x.end(2), 8);
     }
 
     private static void thingsHandsAndAfter() {
-        BridgeNight one = night("hours 2-2;needs track;", "hours 3-3;needs track;", "hours 4-4;needs crane;",
+        BridgeNight one = Nights.with("hours 2-2;needs track;", "hours 3-3;needs track;", "hours 4-4;needs crane;",
             "hours 1-1;needs hole;", "hours 6-6;", "hours 5-5;");
-        startsAre("10: a thing is used by one, none by all", one, 0, 0, 2, 0, 0, 0, 0);
-        BridgeNight hands = night("hours 2-2;hands 20;", "hours 3-3;hands 11;", "hours 4-4;hands 10;", "hours 9-9;");
-        startsAre("10: hands, and a later one that goes ahead", hands, 0, 0, 2, 0, 0);
+        Nights.startsAre("10: a thing is used by one, none by all", one, 0, 0, 2, 0, 0, 0, 0);
+        BridgeNight hands = Nights.with("hours 2-2;hands 20;", "hours 3-3;hands 11;", "hours 4-4;hands 10;", "hours 9-9;");
+        Nights.startsAre("10: hands, and a later one that goes ahead", hands, 0, 0, 2, 0, 0);
         hands.set(0, 31);
-        startsAre("10: 31 hands", hands, 0, 0, 0, 2, 0);
+        Nights.startsAre("10: 31 hands", hands, 0, 0, 0, 2, 0);
         hands.set(0, 20);
-        startsAre("10: 20 hands", hands, 0, 0, 2, 5, 0);
-        BridgeNight both = night("hours 3-3;", "hours 5-5;", "hours 1-1;after 0 1;", "hours 1-1;after 0;");
-        startsAre("10: after all of these", both, 0, 0, 0, 5, 3);
-        BridgeNight ends = night("hours 2-2;needs track;hands 30;", "hours 2-2;needs track;after 0;hands 30;",
+        Nights.startsAre("10: 20 hands", hands, 0, 0, 2, 5, 0);
+        BridgeNight both = Nights.with("hours 3-3;", "hours 5-5;", "hours 1-1;after 0 1;", "hours 1-1;after 0;");
+        Nights.startsAre("10: after all of these", both, 0, 0, 0, 5, 3);
+        BridgeNight ends = Nights.with("hours 2-2;needs track;hands 30;", "hours 2-2;needs track;after 0;hands 30;",
             "hours 1-1;hands 30;");
-        startsAre("10: what ends is free in the same hour", ends, 0, 0, 2, 4);
+        Nights.startsAre("10: what ends is free in the same hour", ends, 0, 0, 2, 4);
         ends.move(2, 0);
-        startsAre("10: the order decides", ends, 0, 1, 3, 0);
+        Nights.startsAre("10: the order decides", ends, 0, 1, 3, 0);
         Check.due("10: the end", () -> ends.end(0), 5);
     }
 
     private static void whatNeverBegins() {
-        BridgeNight x = night("hours 2-3;hands 25;", "hours 1-1;after 0;", "hours 4-4;hands 24;", "hours 1-1;after 2;");
+        BridgeNight x = Nights.with("hours 2-3;hands 25;", "hours 1-1;after 0;", "hours 4-4;hands 24;", "hours 1-1;after 2;");
         Check.due("10: crew 24", () -> x.set(0, 24), 30);
         Check.due("10: no end", () -> x.end(0), -1);
         Check.due("12: no end for any", x::best, -1);
-        startsAre("11: never", x, 1, -1, -1, 0, 4);
+        Nights.startsAre("11: never", x, 1, -1, -1, 0, 4);
         Check.due("10: crew 25", () -> x.set(0, 25), 24);
         Check.due("10: an end", () -> x.end(1), 8);
-        startsAre("11: it begins", x, 1, 0, 3, 3, 7);
+        Nights.startsAre("11: it begins", x, 1, 0, 3, 3, 7);
     }
 
     private static void best() {
-        BridgeNight x = night("hours 1-1;needs track;", "hours 5-5;needs track;after 0;", "hours 2-2;needs track;",
+        BridgeNight x = Nights.with("hours 1-1;needs track;", "hours 5-5;needs track;after 0;", "hours 2-2;needs track;",
             "hours 9-9;after 2;");
         Check.due("12: before", () -> x.end(1), 17);
         Check.due("12: best", x::best, 11);
-        orderIs("12: the first of the best", x, 1, 2, 0, 3);
+        Nights.orderIs("12: the first of the best", x, 1, 2, 0, 3);
         Check.due("12: its end", () -> x.end(1), 11);
         Check.due("12: again", x::best, 11);
         Check.due("12: another work", () -> Check.tell(x, "hours 1-1;hands 30;"), 4);
-        orderIs("12: it is the last", x, 1, 2, 0, 3, 4);
+        Nights.orderIs("12: it is the last", x, 1, 2, 0, 3, 4);
         Check.due("12: best of five", x::best, 11);
-        orderIs("12: five", x, 1, 2, 0, 3, 4);
-        BridgeNight y = night("hours 3-3;hands 20;", "hours 2-2;hands 20;", "hours 4-4;hands 10;");
+        Nights.orderIs("12: five", x, 1, 2, 0, 3, 4);
+        BridgeNight y = Nights.with("hours 3-3;hands 20;", "hours 2-2;hands 20;", "hours 4-4;hands 10;");
         Check.due("12: crew 30", y::best, 5);
-        orderIs("12: crew 30", y, 0, 1, 2);
+        Nights.orderIs("12: crew 30", y, 0, 1, 2);
         y.set(0, 29);
         Check.due("12: crew 29", y::best, 9);
         y.set(0, 50);
         Check.due("12: crew 50", y::best, 4);
-        orderIs("12: crew 50", y, 0, 1, 2);
+        Nights.orderIs("12: crew 50", y, 0, 1, 2);
     }
 
     /** By the most hours all orders end at 10; by the least, 2 goes along with one of the others. */
     private static void bestByLeastHours() {
-        BridgeNight x = night("hours 1-5;hands 20;", "hours 2-5;hands 20;", "hours 2-5;hands 10;");
+        BridgeNight x = Nights.with("hours 1-5;hands 20;", "hours 2-5;hands 20;", "hours 2-5;hands 10;");
         x.move(2, 0);
         Check.due("12: by the most", x::best, 10);
         Check.due("12: by the least", () -> x.end(0), 3);
-        orderIs("12: the first of both", x, 0, 1, 2);
-        BridgeNight y = night("hours 1-4;hands 15;", "hours 1-4;hands 15;", "hours 3-4;hands 15;");
+        Nights.orderIs("12: the first of both", x, 0, 1, 2);
+        BridgeNight y = Nights.with("hours 1-4;hands 15;", "hours 1-4;hands 15;", "hours 3-4;hands 15;");
         Check.due("12: all orders alike by the most", () -> y.end(1), 8);
         Check.due("12: not by the least", () -> y.end(0), 4);
         Check.due("12: the best by the most", y::best, 8);
         Check.due("12: the best by the least", () -> y.end(0), 3);
-        orderIs("12: the least of these", y, 0, 2, 1);
+        Nights.orderIs("12: the least of these", y, 0, 2, 1);
     }
 
     private static void bestOfFewHands() {
@@ -359,17 +328,17 @@ public final class PromiseTest {
         secondGoesFirst("hands 1;", "hands 2;", 2);
         secondGoesFirst("hands 2;", "hands 1;", 2);
         secondGoesFirst("needs hole;", "needs hole;", 30);
-        BridgeNight y = night("hours 3-3;needs hole;", "hours 2-2;needs crane;hands 2;", "hours 9-9;after 1;");
+        BridgeNight y = Nights.with("hours 3-3;needs hole;", "hours 2-2;needs crane;hands 2;", "hours 9-9;after 1;");
         Check.due("12: none in another's way", y::best, 11);
-        orderIs("12: none in another's way", y, 0, 1, 2);
+        Nights.orderIs("12: none in another's way", y, 0, 1, 2);
     }
 
     /** Two works of which one alone can go at a time, and a long third one behind the second. */
     private static void secondGoesFirst(String first, String second, int crew) {
-        BridgeNight x = night("hours 3-3;" + first, "hours 2-2;" + second, "hours 9-9;after 1;");
+        BridgeNight x = Nights.with("hours 3-3;" + first, "hours 2-2;" + second, "hours 9-9;after 1;");
         x.set(0, crew);
         Check.due("12: " + first + second, x::best, 11);
-        orderIs("12: " + first + second, x, 1, 0, 2);
+        Nights.orderIs("12: " + first + second, x, 1, 0, 2);
     }
 
     private static void bestIsNotTold() {
@@ -377,25 +346,25 @@ public final class PromiseTest {
         for (int w = 0; w < 8; w++) {
             texts[w] = "hours 1-1;hands 30;";
         }
-        BridgeNight x = night(texts);
+        BridgeNight x = Nights.with(texts);
         x.move(7, 0);
         Check.due("12: 8 works", x::best, -1);
-        orderIs("12: nothing changes", x, 7, 0, 1, 2, 3, 4, 5, 6, -1);
-        BridgeNight y = night("hours 1-2;hands 2;", "hours 1-2;");
+        Nights.orderIs("12: nothing changes", x, 7, 0, 1, 2, 3, 4, 5, 6, -1);
+        BridgeNight y = Nights.with("hours 1-2;hands 2;", "hours 1-2;");
         y.move(1, 0);
         y.set(0, 1);
         Check.due("12: no end", y::best, -1);
-        orderIs("12: nothing changes without an end", y, 1, 0);
-        BridgeNight z = night("hours 1-1;", "hours 1-1;", "hours 1-1;", "hours 1-1;", "hours 1-1;", "hours 1-1;",
+        Nights.orderIs("12: nothing changes without an end", y, 1, 0);
+        BridgeNight z = Nights.with("hours 1-1;", "hours 1-1;", "hours 1-1;", "hours 1-1;", "hours 1-1;", "hours 1-1;",
             "hours 1-1;hands 30;");
         z.move(6, 0);
         Check.due("12: 7 works", z::best, 1);
-        orderIs("12: 7 works", z, 0, 1, 2, 3, 4, 5, 6);
+        Nights.orderIs("12: 7 works", z, 0, 1, 2, 3, 4, 5, 6);
     }
 
     private static void orderAndMove() {
-        BridgeNight x = night("hours 1-1;", "hours 1-1;", "hours 1-1;", "hours 1-1;", "hours 1-1;");
-        orderIs("13: by numbers", x, 0, 1, 2, 3, 4, -1);
+        BridgeNight x = Nights.with("hours 1-1;", "hours 1-1;", "hours 1-1;", "hours 1-1;", "hours 1-1;");
+        Nights.orderIs("13: by numbers", x, 0, 1, 2, 3, 4, -1);
         for (int bad : new int[] {-1, 5, 16, LEAST_INT, GREATEST_INT}) {
             Check.due("13: order(" + bad + ")", () -> x.order(bad), -1);
             Check.isThrown("14: work " + bad, () -> x.move(bad, 0), IOOBE);
@@ -403,22 +372,22 @@ public final class PromiseTest {
             Check.isThrown("14: place " + bad, () -> x.move(0, bad), IAE);
         }
         Check.due("14: to the left", () -> x.move(3, 1), 3);
-        orderIs("14: to the left", x, 0, 3, 1, 2, 4);
+        Nights.orderIs("14: to the left", x, 0, 3, 1, 2, 4);
         Check.due("14: to the right", () -> x.move(0, 4), 0);
-        orderIs("14: to the right", x, 3, 1, 2, 4, 0);
+        Nights.orderIs("14: to the right", x, 3, 1, 2, 4, 0);
         Check.due("14: to its own place", () -> x.move(2, 2), 2);
-        orderIs("14: to its own place", x, 3, 1, 2, 4, 0);
+        Nights.orderIs("14: to its own place", x, 3, 1, 2, 4, 0);
         Check.due("14: to the first place", () -> x.move(0, 0), 4);
-        orderIs("14: to the first place", x, 0, 3, 1, 2, 4);
+        Nights.orderIs("14: to the first place", x, 0, 3, 1, 2, 4);
         Check.due("13: a new one", () -> Check.tell(x, "hours 1-1;"), 5);
-        orderIs("13: a new one is the last", x, 0, 3, 1, 2, 4, 5, -1);
+        Nights.orderIs("13: a new one is the last", x, 0, 3, 1, 2, 4, 5, -1);
     }
 
     /** Two draws that end at 3 and at 7. */
     private static BridgeNight withTwoDraws() {
-        BridgeNight x = night("hours 1-5;back 2;hands 30;", "hours 2-2;back 3;hands 30;");
-        drawWith(x, 0, 0);
-        drawWith(x, 4, 0);
+        BridgeNight x = Nights.with("hours 1-5;back 2;hands 30;", "hours 2-2;back 3;hands 30;");
+        Nights.draw(x, 0, 0);
+        Nights.draw(x, 4, 0);
         return x;
     }
 
@@ -449,10 +418,10 @@ public final class PromiseTest {
             Check.isThrown("17: hour " + bad, () -> x.off(bad), IAE);
             Check.isThrown("17: hour " + bad + " without a draw", () -> new BridgeNight().off(bad), IAE);
         }
-        BridgeNight y = night("hours 1-5;back 0;hands 30;", "hours 2-2;hands 30;");
+        BridgeNight y = Nights.with("hours 1-5;back 0;hands 30;", "hours 2-2;hands 30;");
         Check.due("17: no draw", () -> y.off(0), -1);
-        drawWith(y, 4, 0);
-        drawWith(y, 0, 0);
+        Nights.draw(y, 4, 0);
+        Nights.draw(y, 0, 0);
         Check.due("17: back by all", () -> y.off(1), 0);
         Check.due("17: no back by some", () -> y.off(2), -1);
     }
@@ -464,14 +433,14 @@ public final class PromiseTest {
             x.set(1, d[0]);
             Check.due("18: last() for the limit " + d[0], x::last, d[1]);
         }
-        BridgeNight y = night("hours 3-3;hands 30;back 40;", "hours 3-3;hands 30;");
+        BridgeNight y = Nights.with("hours 3-3;hands 30;back 40;", "hours 3-3;hands 30;");
         Check.due("18: no draw", y::last, -1);
-        drawWith(y, 0, 0);
+        Nights.draw(y, 0, 0);
         Check.due("18: till back is missing", y::last, 3);
         y.set(1, 0);
         Check.due("18: at hour 0", y::last, 0);
-        BridgeNight z = night("hours 1-1;back 0;");
-        drawWith(z, 0);
+        BridgeNight z = Nights.with("hours 1-1;back 0;");
+        Nights.draw(z, 0);
         z.set(1, 1000);
         Check.due("18: all hours", z::last, 1000);
     }
@@ -487,15 +456,15 @@ public final class PromiseTest {
     }
 
     private static void lastWithoutOn() {
-        BridgeNight x = night("hours 3-3;hands 30;back 1;", "hours 4-4;hands 1;");
-        drawWith(x, 0, 0);
+        BridgeNight x = Nights.with("hours 3-3;hands 30;back 1;", "hours 4-4;hands 1;");
+        Nights.draw(x, 0, 0);
         x.set(1, 0);
         x.set(0, 29);
         Check.due("18: what never begins", () -> x.begins(2, 0), -1);
         Check.due("18: no on", x::on, -1);
         Check.due("18: till one without a way back begins", x::last, 0);
-        BridgeNight y = night("hours 3-3;hands 30;", "hours 4-4;hands 1;back 40;");
-        drawWith(y, 0, 0);
+        BridgeNight y = Nights.with("hours 3-3;hands 30;", "hours 4-4;hands 1;back 40;");
+        Nights.draw(y, 0, 0);
         y.set(1, 0);
         y.set(0, 29);
         Check.due("18: without on, off may be great", y::last, 1000);
@@ -574,10 +543,10 @@ public final class PromiseTest {
     }
 
     private static void count() {
-        BridgeNight x = night("hours 1-1;", "hours 1-1;");
-        drawWith(x, 1, 2);
-        drawWith(x, 1, 2);
-        drawWith(x, 1, 2);
+        BridgeNight x = Nights.with("hours 1-1;", "hours 1-1;");
+        Nights.draw(x, 1, 2);
+        Nights.draw(x, 1, 2);
+        Nights.draw(x, 1, 2);
         for (int i = 0; i < 5; i++) {
             x.noise(i);
         }

@@ -34,7 +34,11 @@ public final class RandomRunsTest {
         Check.finish();
     }
 
+    /** What the 513th call answers is free, so it is not made. */
     private void same(String what, Check.Call mine, Check.Call plain) {
+        if (calls == CALLS) {
+            return;
+        }
         calls++;
         Check.report("run " + run + ", call " + calls + ": " + what, Check.answerOf(mine), Check.answerOf(plain));
     }
