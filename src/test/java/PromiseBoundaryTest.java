@@ -31,6 +31,7 @@ public final class PromiseBoundaryTest {
         beginsNever();
         bestIsNotTold();
         bestWithoutAnEnd();
+        bestBehindABest();
         orderOfNoSuchPlace();
         moveKeepsTheOthers();
         moveOfNoSuchWorkOrPlace();
@@ -414,6 +415,31 @@ public final class PromiseBoundaryTest {
         Nights.orderIs("12: the same order as before", x, 0, 1, -1);
     }
 
+    /** 12: "BEST ORDER is the ORDER": anew for another work, another crew, and another order. */
+    private static void bestBehindABest() {
+        BridgeNight x = Nights.with("hours 3-3;hands 10;", "hours 2-2;hands 10;", "hours 9-9;after 1;");
+        Check.due("12: hands enough", x::best, 11);
+        Nights.orderIs("12: hands enough", x, 0, 1, 2, -1);
+        x.set(0, 19);
+        Check.due("12: one at a time", x::best, 11);
+        Nights.orderIs("12: one at a time", x, 1, 0, 2, -1);
+        x.set(0, 20);
+        Check.due("12: hands enough again", x::best, 11);
+        Nights.orderIs("12: hands enough again", x, 0, 1, 2, -1);
+        Check.due("12: another work", () -> Check.tell(x, "hours 20-20;hands 20;"), 3);
+        Check.due("12: of four", x::best, 23);
+        Nights.orderIs("12: of four", x, 0, 1, 2, 3, -1);
+        Check.due("12: a work behind it", () -> Check.tell(x, "hours 5-5;after 3;"), 4);
+        Check.due("12: of five", x::best, 28);
+        Nights.orderIs("12: of five", x, 0, 1, 2, 3, 4, -1);
+        Check.due("12: a longer work behind the first", () -> Check.tell(x, "hours 30-30;after 0;"), 5);
+        Check.due("12: of six", x::best, 33);
+        x.move(3, 0);
+        Check.due("12: another order's end", () -> x.end(1), 53);
+        Check.due("12: of six again", x::best, 33);
+        Nights.orderIs("12: of six again", x, 0, 1, 2, 3, 4, 5, -1);
+    }
+
     /** 13: "The k-th WORK of the ORDER; NONE." */
     private static void orderOfNoSuchPlace() {
         for (int works : new int[] {0, 1, 7, 16}) {
@@ -459,6 +485,8 @@ public final class PromiseBoundaryTest {
     private static void partWithoutDraws() {
         BridgeNight x = Nights.with("hours 1-1;");
         Check.due("15: no draw", x::part, 0);
+        Check.due("15: the other rows", () -> x.end(0) + x.end(1), 2);
+        Check.due("15: are no draws", x::part, 0);
         for (int d = 0; d < 20; d++) {
             Nights.draw(x, d);
         }
@@ -636,7 +664,16 @@ public final class PromiseBoundaryTest {
         Check.due("21: count", () -> x.count(3), 0);
         Check.due("21: none is to come out", () -> x.out(0), -1);
         Check.due("21: a greater one goes to the first dead end", () -> x.train(6), 0);
-        Check.due("21: thirty leave", () -> Nights.trains(30, 0, 7).leave(), 30);
+        Check.due("21: it leaves", x::leave, 1);
+        Check.due("21: a less one goes there, too", () -> x.train(5), 0);
+        Check.due("21: which is new", x::ends, 1);
+        Check.due("21: another goes to a second one", () -> x.train(6), 1);
+        BridgeNight full = Nights.trains(30, 100, 7);
+        Check.due("21: thirty leave", full::leave, 30);
+        for (int t = 0; t < 30; t++) {
+            int number = t;
+            Check.due("21: no dead end of theirs is left for " + t, () -> full.train(number), number);
+        }
     }
 
     /** 22: "The k-th TRAIN that is to come out: its dead end; NONE." */

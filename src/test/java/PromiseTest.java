@@ -259,7 +259,8 @@ public final class PromiseTest {
         BridgeNight one = Nights.with("hours 2-2;needs track;", "hours 3-3;needs track;", "hours 4-4;needs crane;",
             "hours 1-1;needs hole;", "hours 6-6;", "hours 5-5;");
         Nights.startsAre("10: a thing is used by one, none by all", one, 0, 0, 2, 0, 0, 0, 0);
-        BridgeNight hands = Nights.with("hours 2-2;hands 20;", "hours 3-3;hands 11;", "hours 4-4;hands 10;", "hours 9-9;");
+        BridgeNight hands = Nights.with("hours 2-2;hands 20;", "hours 3-3;hands 11;", "hours 4-4;hands 10;",
+            "hours 9-9;");
         Nights.startsAre("10: hands, and a later one that goes ahead", hands, 0, 0, 2, 0, 0);
         hands.set(0, 31);
         Nights.startsAre("10: 31 hands", hands, 0, 0, 0, 2, 0);
@@ -276,7 +277,8 @@ public final class PromiseTest {
     }
 
     private static void whatNeverBegins() {
-        BridgeNight x = Nights.with("hours 2-3;hands 25;", "hours 1-1;after 0;", "hours 4-4;hands 24;", "hours 1-1;after 2;");
+        BridgeNight x = Nights.with("hours 2-3;hands 25;", "hours 1-1;after 0;", "hours 4-4;hands 24;",
+            "hours 1-1;after 2;");
         Check.due("10: crew 24", () -> x.set(0, 24), 30);
         Check.due("10: no end", () -> x.end(0), -1);
         Check.due("12: no end for any", x::best, -1);
@@ -287,8 +289,8 @@ public final class PromiseTest {
     }
 
     private static void best() {
-        BridgeNight x = Nights.with("hours 1-1;needs track;", "hours 5-5;needs track;after 0;", "hours 2-2;needs track;",
-            "hours 9-9;after 2;");
+        BridgeNight x = Nights.with("hours 1-1;needs track;", "hours 5-5;needs track;after 0;",
+            "hours 2-2;needs track;", "hours 9-9;after 2;");
         Check.due("12: before", () -> x.end(1), 17);
         Check.due("12: best", x::best, 11);
         Nights.orderIs("12: the first of the best", x, 1, 2, 0, 3);
@@ -487,7 +489,8 @@ public final class PromiseTest {
 
     private static void train() {
         BridgeNight x = new BridgeNight();
-        int[][] due = {{500, 0}, {700, 1}, {600, 1}, {900, 2}, {550, 1}, {520, 1}, {800, 2}, {499, 0}, {510, 1}, {505, 1}};
+        int[][] due = {{500, 0}, {700, 1}, {600, 1}, {900, 2}, {550, 1}, {520, 1}, {800, 2}, {499, 0}, {510, 1},
+            {505, 1}};
         for (int[] d : due) {
             Check.due("19: train(" + d[0] + ")", () -> x.train(d[0]), d[1]);
         }

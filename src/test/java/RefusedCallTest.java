@@ -63,24 +63,25 @@ public final class RefusedCallTest {
     }
 
     private static BridgeNight fullTape() {
-        BridgeNight x = Nights.alike(15, "hours 1-40;");
-        Check.feedText(x, "hours 5-6;back 7;" + " ".repeat(183));
-        for (int i = 0; i < 20; i++) {
-            x.noise(i);
-        }
-        return x;
+        return withFullTape(15);
     }
 
     private static BridgeNight allWorks() {
-        BridgeNight x = Nights.alike(16, "hours 1-40;");
-        Check.feedText(x, "hours 5-6;back 7;" + " ".repeat(183));
-        for (int i = 0; i < 20; i++) {
-            x.noise(i);
-        }
+        BridgeNight x = withFullTape(16);
         for (int t = 0; t < 30; t++) {
             x.train(300 + 7 * t % 30);
         }
         x.move(15, 0);
+        return x;
+    }
+
+    /** So many works, a tape of 200 bytes, and 20 numbers of noise. */
+    private static BridgeNight withFullTape(int works) {
+        BridgeNight x = Nights.alike(works, "hours 1-40;");
+        Check.feedText(x, "hours 5-6;back 7;" + " ".repeat(183));
+        for (int i = 0; i < 20; i++) {
+            x.noise(i);
+        }
         return x;
     }
 

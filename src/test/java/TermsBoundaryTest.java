@@ -25,6 +25,7 @@ public final class TermsBoundaryTest {
         endIsTheLastHour();
         endWithoutWorks();
         endIsNoneIfOneNeverBegins();
+        bestOfAllOrders();
         bestByTheMostHoursFirst();
         bestByTheLeastHoursThen();
         bestByNumbersLast();
@@ -208,8 +209,8 @@ public final class TermsBoundaryTest {
 
     /** "at hour 0, and at each hour at which some WORK ends". */
     private static void beginsAtHourZeroAndWhereOneEnds() {
-        BridgeNight x = Nights.with("hours 3-3;needs hole;", "hours 5-5;", "hours 1-1;needs hole;", "hours 2-2;after 2;",
-            "hours 1-1;after 1;");
+        BridgeNight x = Nights.with("hours 3-3;needs hole;", "hours 5-5;", "hours 1-1;needs hole;",
+            "hours 2-2;after 2;", "hours 1-1;after 1;");
         Nights.startsAre("where one ends", x, 0, 0, 0, 3, 4, 5);
         Check.due("the end", () -> x.end(0), 6);
     }
@@ -304,6 +305,22 @@ public final class TermsBoundaryTest {
     private static BridgeNight nightOfTwoAims() {
         return Nights.with("hours 1-4;hands 20;", "hours 3-6;hands 10;", "hours 2-5;hands 10;",
             "hours 4-4;hands 20;after 0;");
+    }
+
+    /** "of all ORDERS": those too in which a greater number stands right ahead of a less one. */
+    private static void bestOfAllOrders() {
+        BridgeNight after = Nights.with("hours 5-5;hands 30;", "hours 1-1;hands 1;", "hours 1-1;hands 1;after 1;",
+            "hours 9-9;after 2;");
+        Check.due("2 is after 1, and ahead of 0", after::best, 11);
+        Nights.orderIs("2 is after 1, and ahead of 0", after, 1, 2, 0, 3, -1);
+        String[][] rivals = {{"hands 1;", "hands 1;"}, {"hands 1;", "hands 2;"}, {"hands 2;", "hands 1;"},
+            {"needs hole;", "needs hole;"}, {"needs crane;hands 1;", "needs crane;hands 0;"}};
+        for (String[] pair : rivals) {
+            BridgeNight x = Nights.with("hours 3-3;" + pair[0], "hours 2-2;" + pair[1], "hours 9-9;after 1;");
+            x.set(0, pair[0].equals(pair[1]) ? 1 : 2);
+            Check.due("1 ahead of 0", x::best, 11);
+            Nights.orderIs("1 ahead of 0", x, 1, 0, 2, -1);
+        }
     }
 
     /** "of all ORDERS those of the least END by ROW 1". */

@@ -158,15 +158,20 @@ public final class TextBoundaryTest {
     private static void wordsAreAllTheirLetters() {
         Nights.isTold(1, "hours1-2;back3;hands4;after0;needs hole;", "1 2 3 4 3 1");
         for (String word : new String[] {"hours", "needs", "hands", "back", "after"}) {
-            Nights.isFault(1, word + "s;", 1, 0);
+            Nights.isFault(1, word + "a;", 1, 0);
+            Nights.isFault(1, word + "z;", 1, 0);
             Nights.isFault(1, "a" + word + ";", 1, 0);
+            Nights.isFault(1, "z" + word.substring(1) + ";", 1, 0);
+            Nights.isFault(1, word.substring(0, word.length() - 1) + "z;", 1, 0);
             Nights.isFault(1, word.substring(1) + ";", 1, 0);
             Nights.isFault(1, word.substring(0, word.length() - 1) + ";", 1, 0);
             Nights.isFault(1, word.toUpperCase() + ";", 1, 0);
         }
         for (String thing : new String[] {"track", "crane", "hole"}) {
             Nights.isFault(1, "needs" + thing + ";", 1, 0);
-            Nights.isFault(1, "needs " + thing + "s;", 1, 6);
+            Nights.isFault(1, "needs " + thing + "a;", 1, 6);
+            Nights.isFault(1, "needs " + thing + "z;", 1, 6);
+            Nights.isFault(1, "needs z" + thing.substring(1) + ";", 1, 6);
             Nights.isFault(1, "needs " + thing.substring(0, thing.length() - 1) + ";", 1, 6);
             Nights.isFault(1, "needs " + thing.substring(0, 1).toUpperCase() + thing.substring(1) + ";", 1, 6);
         }
@@ -176,8 +181,8 @@ public final class TextBoundaryTest {
     /** "blanks (32) may stand ahead of all these". */
     private static void blanksAheadOfAll() {
         Nights.isTold(2, " hours 1 - 2 ; needs hole ; hands 3 ; back 4 ; after 0 1 ;", "1 2 3 3 4 3");
-        Nights.isTold(2, "   hours   1   -   2   ;   needs   hole   ;   hands   3   ;   back   4   ;   after   0   1   ;",
-            "1 2 3 3 4 3");
+        Nights.isTold(2, "   hours   1   -   2   ;   needs   hole   ;   hands   3   ;"
+            + "   back   4   ;   after   0   1   ;", "1 2 3 3 4 3");
         Nights.isTold(2, "hours1-2;needs hole;hands3;back4;after0 1;", "1 2 3 3 4 3");
         Nights.isFault(2, "ho urs 1-2;", 1, 0);
         Nights.isFault(2, "needs ho le;", 1, 6);
@@ -259,6 +264,14 @@ public final class TextBoundaryTest {
         Nights.isFault(1, "after 5 x;", 2, 6);
         Nights.isFault(1, "after 0 x 5;", 1, 8);
         Nights.isFault(0, "back 41", 2, 5);
+        Nights.isFault(0, "hands 31", 2, 6);
+        Nights.isFault(0, "hands x", 1, 6);
+        Nights.isFault(0, "back x", 1, 5);
+        Nights.isFault(0, "needs x", 1, 6);
+        Nights.isFault(0, "after 0", 2, 6);
+        Nights.isFault(0, "hours 0x1", 2, 6);
+        Nights.isFault(0, "hours x", 1, 6);
+        Nights.isFault(0, "hours 1x1", 1, 7);
     }
 
     /** "at its first byte". */
@@ -278,6 +291,7 @@ public final class TextBoundaryTest {
         for (String text : cut) {
             Nights.isFault(1, text, 1, text.length());
             Nights.isFault(1, text + "   ", 1, text.length() + 3);
+            Nights.isFault(1, " ".repeat(200 - text.length()) + text, 1, 200);
             if (!text.startsWith("hours")) {
                 Nights.isFault(1, HOURS + text, 1, 10 + text.length());
             }
