@@ -18,6 +18,9 @@ public final class BridgeNight {
     private static final int HOUR_AT_MOST = 1000;
     private static final int NUMBER_AT_MOST = 1000;
 
+    /** Above every END: 16 works of 40 hours, one behind another, take 640. */
+    private static final int BEYOND_ALL_HOURS = 1000000;
+
     private static final int ROW_LEAST = 0;
     private static final int ROW_MOST = 1;
     private static final int FIRST_DRAW = 2;
@@ -653,7 +656,7 @@ public final class BridgeNight {
         }
 
         private int nextStop() {
-            int next = Integer.MAX_VALUE;
+            int next = BEYOND_ALL_HOURS;
             for (int w = 0; w < size; w++) {
                 if (isRunning(w)) {
                     next = Math.min(next, stops[w]);
@@ -754,8 +757,8 @@ public final class BridgeNight {
             }
             knownSize = site.size;
             knownCrew = site.crew;
-            endByMost = Integer.MAX_VALUE;
-            endByLeast = Integer.MAX_VALUE;
+            endByMost = BEYOND_ALL_HOURS;
+            endByLeast = BEYOND_ALL_HOURS;
             tryFrom(site, 0, 0);
         }
 

@@ -6,7 +6,7 @@ import java.util.Arrays;
 import java.util.Set;
 import java.util.TreeSet;
 
-/** The public face, exactly as the document has it, and rule 1 of LANGUAGE.md. */
+/** The public face, exactly as the document has it, and rules 1 and 5 of LANGUAGE.md. */
 public final class FaceTest {
     private static final String IAE = "IllegalArgumentException";
     private static final String ISE = "IllegalStateException";
@@ -18,6 +18,9 @@ public final class FaceTest {
         "begins 2 " + IOOBE + " " + IAE, "best 0", "order 1", "move 2 " + IOOBE + " " + IAE,
         "part 0", "on 0", "off 1 " + IAE, "last 0", "train 1 " + IAE, "ends 0", "leave 0", "out 1",
         "count 1"};
+
+    private static final Set<Class<?>> CONSTANTS = Set.of(int.class, long.class, boolean.class, char.class,
+        String.class);
 
     public static void main(String[] args) throws Exception {
         int kind = BridgeNight.class.getModifiers();
@@ -32,16 +35,9 @@ public final class FaceTest {
 
     private static void methods() {
         Set<String> due = new TreeSet<>(Arrays.asList(FACE));
-        Set<String> names = new TreeSet<>();
-        for (String line : FACE) {
-            names.add(line.substring(0, line.indexOf(' ')));
-        }
         Set<String> found = new TreeSet<>();
         for (Method m : BridgeNight.class.getDeclaredMethods()) {
-            if (Modifier.isPrivate(m.getModifiers())) {
-                Check.report("a private method " + m.getName() + " with a public name",
-                    Boolean.toString(names.contains(m.getName())), "false");
-            } else {
+            if (!Modifier.isPrivate(m.getModifiers())) {
                 found.add(told(m));
             }
         }
@@ -71,8 +67,34 @@ public final class FaceTest {
         }
     }
 
+    /** Rule 5: constants of few types, and no other static state; rule 1: no private method with a public name. */
+    private static void staticsAndNames(Class<?> c) {
+        for (Field f : c.getDeclaredFields()) {
+            if (Modifier.isStatic(f.getModifiers())) {
+                Check.report(c.getSimpleName() + "." + f.getName() + " is a constant",
+                    Modifier.isFinal(f.getModifiers()) + " " + CONSTANTS.contains(f.getType()), "true true");
+            }
+        }
+        for (Method m : c.getDeclaredMethods()) {
+            if (Modifier.isPrivate(m.getModifiers())) {
+                Check.report("a private method " + c.getSimpleName() + "." + m.getName() + " with a public name",
+                    Boolean.toString(publicNames().contains(m.getName())), "false");
+            }
+        }
+    }
+
+    private static Set<String> publicNames() {
+        Set<String> names = new TreeSet<>();
+        for (String line : FACE) {
+            names.add(line.substring(0, line.indexOf(' ')));
+        }
+        return names;
+    }
+
     private static void classesInside() {
+        staticsAndNames(BridgeNight.class);
         for (Class<?> c : BridgeNight.class.getDeclaredClasses()) {
+            staticsAndNames(c);
             int kind = c.getModifiers();
             Check.report("class " + c.getSimpleName() + " is static",
                 Boolean.toString(Modifier.isStatic(kind)), "true");
